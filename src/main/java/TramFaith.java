@@ -27,7 +27,6 @@ public final class TramFaith {
     private static final int NOWHERE = -1;
     private static final int NOBODY = 0;
 
-    private final Waiter[] waiters;
     private final Shelf shelf;
     private final Tape tape;
     private final Line line;
@@ -40,7 +39,7 @@ public final class TramFaith {
     private int latestFinding;
 
     public TramFaith() {
-        waiters = new Waiter[] {new Plain(), new Crowd(), new Doubter(), new Child(), new Saint()};
+        Waiter[] waiters = {new Plain(), new Crowd(), new Doubter(), new Child(), new Saint()};
         shelf = new Shelf();
         tape = new Tape();
         line = new Line(waiters);
@@ -825,6 +824,7 @@ public final class TramFaith {
         final int[] faith = new int[MOST_PEOPLE];
         final int[] wants = new int[MOST_PEOPLE];
         final int[] waited = new int[MOST_PEOPLE];
+        /** One of each KIND from 1 on, shared by all LINES. */
         private final Waiter[] waiters;
         private final int[] crowds = new int[MOST_STOPS];
         private final int[] hopes = new int[MOST_STOPS];

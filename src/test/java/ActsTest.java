@@ -146,6 +146,7 @@ public final class ActsTest {
         check.due("13 and has waited", x.person(1, 3), 2);
         check.due("13 the wish", x.undo(), 3);
         check.due("13 he wants 0", x.person(1, 2), 0);
+        check.due("13 the other wants 3", x.person(0, 2), 3);
         check.due("13 the faith", x.undo(), 2);
         check.due("13 it is 5", x.person(0, 1), 5);
         check.due("13 a minute", x.undo(), 1);

@@ -60,7 +60,13 @@ public final class AskedTest {
             }
         }
         x.minutes(3);
+        check.due("30 image 2", x.image(2), Check.BAD);
+        check.due("30 image -1", x.image(-1), Check.BAD);
+        check.due("31 image 2", x.restore(2), Check.BAD);
+        check.due("31 image 3", x.restore(3), Check.BAD);
+        check.due("31 what is refused leaves the acts", x.count(6), 3);
         check.due("31 again", x.restore(1), 1);
+        check.due("31 the acts are forgotten", x.count(6), 0);
         check.due("31 the image stays as it was", x.count(3), 2);
         check.due("31 image 0", x.restore(0), 1);
         check.due("31 stops of it", x.count(1), 2);

@@ -4,6 +4,8 @@ public final class ForetoldTest {
 
     public static void main(String[] args) {
         tellsTheWay();
+        tellsByItself();
+        endsAtSixty();
         findsTheTram();
         tellsAll();
         holds();
@@ -37,6 +39,45 @@ public final class ForetoldTest {
         check.due("19 from now on", x.when(0), 1);
         x.minutes(1);
         check.due("19 now", x.when(0), 0);
+    }
+
+    /** Each call is the first one, so that none lives on what another has played. */
+    private static void tellsByItself() {
+        String text = "t4,5;p0,6,3;d2,5,0;";
+        check.due("16 first of all", Check.lineOf(text).where(0, 2), 2);
+        check.due("17 first of all", Check.lineOf(text).tram(2), 2);
+        check.due("18 first of all", Check.lineOf(text).there(3), 1);
+        check.due("19 first of all", Check.lineOf(text).when(0), 3);
+        check.due("20 first of all", Check.lineOf("t3,0;p0,5,2;k1,0,0;").all(), 2);
+        check.due("21 first of all", Check.lineOf(text).never(), 2);
+        check.due("19 nobody walks", Check.lineOf("t3,40;p0,6,2;").when(0), Check.NONE);
+        check.due("20 nobody walks", Check.lineOf("t3,40;p0,6,2;").all(), Check.NONE);
+        TramFaith x = Check.lineOf("t3,0;p0,5,2;k1,0,0;");
+        x.there(60);
+        check.due("20 from now on, whatever was foretold", x.all(), 2);
+        x.there(60);
+        check.due("23 from now on, whatever was foretold", x.call(0, 1), 0);
+    }
+
+    /** Doubters in each other's way: these come as late as can be told, or one MINUTE too late for that. */
+    private static void endsAtSixty() {
+        TramFaith late = Check.lineOf("t7,3;s2,18,6;d6,16,3;d1,12,2;d4,19,0;d1,18,0;d3,18,1;");
+        check.due("19 behind 60", late.when(1), 60);
+        check.due("20 behind 60", late.all(), 60);
+        check.due("21 behind 60", late.never(), 0);
+        check.due("18 behind 59", late.there(59), 61);
+        check.due("25 for 60", late.walkers(60, 0), 0);
+        check.due("25 for 59", late.walkers(59, 0), 1);
+        TramFaith later = Check.lineOf("t8,2;d2,19,4;d6,20,6;k5,5,0;d3,17,7;d7,7,5;d1,17,6;");
+        check.due("19 behind 61", later.when(4), Check.NONE);
+        check.due("20 behind 61", later.all(), Check.NONE);
+        check.due("21 behind 61", later.never(), 16);
+        check.due("25 for 60, not 61", later.walkers(60, 0), 1);
+        later.minutes(1);
+        check.due("19 behind 60 by now", later.when(4), 60);
+        check.due("20 behind 60 by now", later.all(), 60);
+        check.due("21 behind 60 by now", later.never(), 0);
+        check.due("25 for 60 by now", later.walkers(60, 0), 0);
     }
 
     private static void findsTheTram() {

@@ -10,7 +10,7 @@ public final class ModelTest {
     private static final int MOST_CALLS = 512;
     private static final int SHOWN = 12;
     private static final String SORTS = "pcdks";
-    private static final int[] WILD = {Integer.MIN_VALUE, -1000001, -2, -1, 7, 8, 16, 17, 21, 24, 25, 40, 41, 60, 61,
+    private static final int[] WILD = {Integer.MIN_VALUE, -1000001, -2, -1, 0, 1, 2, 3, 5, 6, 7, 8, 16, 17, 21, 24, 25, 40, 41, 60, 61,
         100, 255, 256, 999999, 1000000, Integer.MAX_VALUE};
 
     private final Random random;
@@ -109,8 +109,10 @@ public final class ModelTest {
         int bound = random.nextInt(3) == 0 ? random.nextInt(41) : random.nextInt(12);
         text.append('t').append(stops).append(',').append(bound).append(';');
         int people = random.nextInt(20) == 0 ? 7 : random.nextInt(7);
+        // doubters in each other's way make the longest runs
+        String sorts = random.nextInt(3) == 0 ? "dddds" : SORTS;
         for (int p = 0; p < people; p++) {
-            text.append(SORTS.charAt(random.nextInt(5))).append(random.nextInt(stops)).append(',')
+            text.append(sorts.charAt(random.nextInt(5))).append(random.nextInt(stops)).append(',')
                 .append(random.nextInt(21)).append(',').append(random.nextInt(stops)).append(';');
         }
         if (random.nextInt(4) == 0) {

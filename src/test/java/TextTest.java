@@ -6,6 +6,7 @@ public final class TextTest {
         feeds();
         reads();
         findsFaults();
+        readsNoOldBytes();
         staysBehindFaults();
         check.end("TextTest");
     }
@@ -105,6 +106,19 @@ public final class TextTest {
         fault(six + "q", 47, 1);
         fault(six + ";", 47, 1);
         fault(six + "1", 47, 1);
+    }
+
+    private static void readsNoOldBytes() {
+        TramFaith x = Check.lineOf("t2,0;p0,0,0;");
+        check.due("7 the end, where a sign was before", Check.type(x, "t2"), -1000102);
+        Check.type(x, "t222222");
+        check.due("7 the end, where figures were before", Check.type(x, "t2,"), -1000103);
+        Check.type(x, "t222222");
+        check.due("7 a number's end, where figures were before", Check.type(x, "t2"), -1000102);
+        Check.type(x, "t2,0;p0,0,0;");
+        check.due("7 nobody, where one was before", Check.type(x, "t2,0;"), 0);
+        check.due("7 figures to the end of a full tape", Check.type(x, "t" + "2".repeat(99)), -1000101);
+        check.due("8 of a full tape", x.fault(), 1);
     }
 
     private static void staysBehindFaults() {

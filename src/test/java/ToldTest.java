@@ -10,6 +10,7 @@ public final class ToldTest {
         refuses();
         rains();
         draws();
+        playsFromNow();
         changesNothing();
         check.end("ToldTest");
     }
@@ -130,6 +131,18 @@ public final class ToldTest {
         check.due("28 what 2", x.rain(0, 1, 2), Check.BAD);
         check.due("28 what -1", x.rain(0, 1, -1), Check.BAD);
         check.due("28 no line", new TramFaith().rain(0, 0, 0), Check.BAD);
+    }
+
+    /** Nobody walks while a row is laid beside what comes, and each call begins from now. */
+    private static void playsFromNow() {
+        // if 0 walked, he and the one at 1 would call the tram there
+        TramFaith stuck = Check.lineOf("t3,0;p0,5,2;p2,6,2;p1,3,1;");
+        Check.fillRow(stuck, 0, 0, 2, 2, 2, 2);
+        check.due("27 who does not ride stays", stuck.bounds(0, 0, 4), 127);
+        TramFaith x = Check.lineOf("t4,0;p0,0,3;p2,0,0;");
+        x.there(60);
+        x.drawn(60, 3, 0);
+        check.due("29 from now on, whatever was foretold", x.drawn(2, 1, 0), 2);
     }
 
     private static void draws() {
