@@ -200,6 +200,11 @@ public final class Promise07LineTest {
             "count(6) = 0", "undo() = STATE", "count(1) = 3", "count(4) = 7", "kind(0) = 4", "kind(1) = 3",
             "person(0,0) = 1", "person(1,0) = 2", "person(0,1) = 4", "person(2,0) = BAD", "stop(3,0) = BAD");
 
+        edge.test("MINUTE 0, nobody has WAITED, whatever was foretold of the one before");
+        edge.answers("t4,40;p0,5,3;d2,5,0; minutes(24) minutes(3) there(60) <t3,7;k1,4,2;d2,1,1;", "line() = 2",
+            "count(3) = 0", "person(0,3) = 0", "person(1,3) = 0", "person(1,4) = 1", "minutes(24) = 0", "count(3) = 24",
+            "person(1,3) = 24");
+
         edge.test("a LINE that is read leaves ROWS, IMAGES, THE TRACE, the FAULT and status()");
         edge.answers(Edge.RICH, "line() = 1", "count(7) = 0", "status() = 2", "fault() = 2", "trace(0) = 12",
             "trace(5) = 20", "count(0) = 4", "set(1,0,70001) = 4465", "drop(2) = 40", "restore(1) = 1", "count(3) = 1",

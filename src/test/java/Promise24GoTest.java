@@ -21,6 +21,12 @@ public final class Promise24GoTest {
         goes("t3,0;p2,9,1;", 0, "0", "1");
         goes("t8,0;p4,9,4;", 0, "3", "1");
 
+        edge.test("of the first one, of the last of six");
+        goes("t4,0;p0,1,3;p2,9,3;", 0, "2", "1");
+        goes("t4,0;p0,1,3;p2,9,3;", 1, "2", "1");
+        goes("t8,0;k0,0,0;p0,0,1;p0,0,1;p0,0,1;p0,0,1;p7,9,2;", 5, "1", "1");
+        goes("t8,40;k0,0,0;p0,0,1;p0,0,1;p0,0,1;p0,0,1;p7,9,2;", 5, "NONE", "NONE");
+
         edge.test("1 to 60 MINUTES");
         goes(GO_60, 0, "0", "60");
         goes(GO_61, 0, "NONE", "NONE");

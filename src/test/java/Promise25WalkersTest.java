@@ -52,9 +52,16 @@ public final class Promise25WalkersTest {
         edge.test("behind some of 0 to d MINUTES: all are THERE now, whatever comes");
         walks("t2,0;p1,5,1;k0,0,0;", 60, "0", "0");
 
-        edge.test("in place of riding, till they are THERE, having WAITED 0 MINUTES");
+        edge.test("they do so in place of riding, one STOP each MINUTE");
         walks("t4,8;p0,5,2;p1,3,2;", 60, "1", "1");
         walks("t3,5;p1,5,2;p0,1,2;", 60, "1", "2");
+        walks("t3,0;p0,5,2;k1,0,1;", 1, "NONE", "NONE");
+
+        edge.test("they have WAITED 0 MINUTES then");
+        // the doubter HOPES anew as he walks by, and so the other one rides
+        walks("t4,8;d0,5,3;p1,3,2; minutes(3)", 3, "1", "1");
+        walks("t4,9;d0,5,3;p1,3,2; minutes(3)", 3, "2", "3");
+        walks("t4,8;d0,5,3;p1,3,2; minutes(3)", 2, "NONE", "NONE");
         edge.end();
     }
 
