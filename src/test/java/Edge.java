@@ -21,6 +21,10 @@ final class Edge {
     /** A new object. */
     static final String NEW = "";
 
+    private static final int DRAWN_SCENES = 150;
+    /** No call, with what comes ahead of it and behind it, takes more. */
+    private static final int FOR_ONE_ROUND = 120;
+
     private final String promise;
     private String sentence = "";
     private int tests;
@@ -73,6 +77,31 @@ final class Edge {
         due(scene + " '" + bytes + "'", "line()", player.call("line()"), -1000100 - place);
         due(scene + " '" + bytes + "'", "fault()", player.call("fault()"), number);
         due(scene + " '" + bytes + "'", "count(7)", player.call("count(7)"), 0);
+    }
+
+    /**
+     * Calls of one name on drawn scenes: each answer, and all that is told behind it, must be what Model answers.
+     * The sentences of the promise stand in tests of their own; this one finds what nobody thought of.
+     */
+    void beside(String name) {
+        test("drawn LINES, beside Model");
+        for (int seed = 1; seed <= DRAWN_SCENES; seed++) {
+            Twin twin = new Twin(seed * 1000003L);
+            twin.playScene();
+            for (int k = 0; k < 4; k++) {
+                twin.callAsMeant(name);
+            }
+            twin.lookAround();
+            while (twin.hasRoomFor(FOR_ONE_ROUND)) {
+                twin.callAsMeant(name);
+                twin.callWild(name);
+                twin.lookAround();
+            }
+            asked += twin.answers();
+            if (twin.differs()) {
+                fail("seed " + seed, twin.told());
+            }
+        }
     }
 
     void due(String scene, String call, long got, long want) {

@@ -48,6 +48,7 @@ public final class Promise02RowTest {
 
         edge.test("a ROW that was dropped is there again");
         edge.answers("row(6,1,4) drop(6)", "count(0) = 0", "row(6,0,2) = 2", "count(0) = 1", "drop(6) = 2");
+        edge.beside("row");
         edge.end();
     }
 }

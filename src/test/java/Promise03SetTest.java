@@ -46,6 +46,7 @@ public final class Promise03SetTest {
         edge.each(Edge.RICH, "set(#,0,1) = BAD", -1, 8, MIN, MAX);
         edge.each(Edge.RICH, "set(#,-1,1) = BAD", -1, 8);
         edge.each(Edge.NEW, "set(#,0,1) = BAD", -1, 8);
+        edge.beside("set");
         edge.end();
     }
 }

@@ -67,6 +67,7 @@ public final class Promise04CopyTest {
         edge.each(Edge.RICH, "copy(0,0,#,0,1) = BAD", -1, 8, MIN, MAX);
         edge.stays(Edge.RICH, "copy(8,0,3,0,1) = BAD", "copy(3,0,8,0,1) = BAD", "copy(8,-1,0,0,1) = BAD",
             "copy(0,0,-1,0,-1) = BAD", "copy(-1,0,8,0,0) = BAD");
+        edge.beside("copy");
         edge.end();
     }
 }

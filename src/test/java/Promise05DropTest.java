@@ -20,6 +20,7 @@ public final class Promise05DropTest {
         edge.test("BAD: no such ROW");
         edge.each(Edge.RICH, "drop(#) = BAD", -1, 8, MIN, MAX);
         edge.each(Edge.NEW, "drop(#) = BAD", -1, 8);
+        edge.beside("drop");
         edge.end();
     }
 }

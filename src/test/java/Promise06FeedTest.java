@@ -30,6 +30,7 @@ public final class Promise06FeedTest {
             edge.answers(scene + " <t2,0;p1,1", "count(7) = 9", "feed(44) = 10", "feed(48) = 11", "feed(59) = 12",
                 "line() = 1", "person(0,0) = 1", "person(0,1) = 1", "person(0,2) = 0");
         }
+        edge.beside("feed");
         edge.end();
     }
 }

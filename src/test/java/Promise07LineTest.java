@@ -14,6 +14,7 @@ public final class Promise07LineTest {
         findsStrangers();
         findsTheFirst();
         standsInPlace();
+        edge.beside("line");
         edge.end();
     }
 

@@ -28,6 +28,7 @@ public final class Promise08FaultTest {
 
         edge.test("a LINE without a FAULT leaves it, and so does all else");
         edge.stays("!t9,0; t2,0;p0,1,1; minutes(3) undo() image(0) restore(0) row(0,0,-1) feed(300)", "fault() = 2");
+        edge.beside("fault");
         edge.end();
     }
 }

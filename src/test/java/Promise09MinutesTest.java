@@ -13,6 +13,7 @@ public final class Promise09MinutesTest {
         endsAtTheLast();
         takesAlong();
         waits();
+        edge.beside("minutes");
         edge.end();
     }
 
@@ -78,12 +79,26 @@ public final class Promise09MinutesTest {
             "person(0,0) = 7");
         edge.answers("t3,0;p1,5,0;p1,5,2;", "minutes(1) = 3");
 
+        edge.test("each KIND rides, and has WAITED 0 MINUTES then");
+        for (char sort : "pcdks".toCharArray()) {
+            edge.answers("t3,12;" + sort + "0,9,2;p0,20,2; minutes(1)", "person(0,0) = 1", "person(0,3) = 0",
+                "minutes(1) = 3", "person(0,0) = 2", "person(0,3) = 0");
+        }
+
         edge.test("THE TRAM as it is ahead of the MINUTE");
         edge.answers("t3,0;p0,5,2;k1,0,0;", "minutes(1) = 0", "person(0,0) = 1", "person(1,0) = 1", "person(1,3) = 1",
             "minutes(1) = 3", "person(1,3) = 0");
     }
 
     private static void waits() {
+        edge.test("all others have WAITED 1 MINUTE more: each KIND, THERE or not, THE TRAM being nowhere or elsewhere");
+        for (char sort : "pcdks".toCharArray()) {
+            edge.answers("t3,40;" + sort + "0,9,2;" + sort + "1,9,1; minutes(3)", "person(0,0) = 0", "person(0,3) = 3",
+                "person(1,0) = 1", "person(1,3) = 3");
+            edge.answers("t3,30;" + sort + "0,9,2;" + sort + "1,9,1;p2,20,2;p2,20,2; minutes(3)", "person(0,0) = 0",
+                "person(0,3) = 3", "person(1,3) = 3", "person(2,3) = 3");
+        }
+
         edge.test("WAITED: 99 at most");
         edge.answers("t2,0;p0,1,0; minutes(24)*4 minutes(2)", "person(0,3) = 98", "minutes(1) = 1", "person(0,3) = 99",
             "minutes(1) = 1", "person(0,3) = 99", "minutes(24) = 1", "person(0,3) = 99", "count(3) = 124");

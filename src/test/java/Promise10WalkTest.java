@@ -35,9 +35,20 @@ public final class Promise10WalkTest {
         edge.answers("t3,40;d0,9,2;d0,9,2; minutes(24)*5", "person(0,3) = 99", "walk(0,1) = 1", "person(0,3) = 0",
             "person(1,3) = 99", "count(3) = 120", "person(0,4) = 9", "person(1,4) = 0");
 
+        edge.test("others have WAITED as before, where he comes from and where he comes to");
+        edge.answers("t3,40;d0,9,2;d0,9,2;d1,9,2;d2,9,2; minutes(5)", "walk(0,1) = 1", "person(0,3) = 0",
+            "person(1,3) = 5", "person(2,3) = 5", "person(3,3) = 5", "person(2,4) = 4");
+
+        edge.test("each KIND walks");
+        for (char sort : "pcdks".toCharArray()) {
+            edge.answers("t3,40;" + sort + "1,9,2; minutes(2)", "walk(0,1) = 2", "person(0,3) = 0", "walk(0,0) = 1",
+                "walk(0,0) = 0");
+        }
+
         edge.test("an ACT, each; what is refused is none");
         edge.answers("t3,0;p0,0,2;", "walk(0,1) = 1", "count(6) = 1", "walk(0,1) = 2", "count(6) = 2",
             "walk(0,1) = STATE", "walk(0,2) = BAD", "walk(1,0) = BAD", "count(6) = 2", "undo() = 1", "person(0,0) = 1");
+        edge.beside("walk");
         edge.end();
     }
 }

@@ -18,6 +18,16 @@ public final class Promise11PreachTest {
         edge.stays(Edge.NEW, "preach(0,21) = BAD");
         edge.answers(Edge.CROWDED, "preach(5,20) = 0", "person(5,1) = 20");
 
+        edge.test("FAITH of each KIND, those that do not HOPE by it, too");
+        for (char sort : "pcdks".toCharArray()) {
+            edge.answers("t2,0;p0,3,1;" + sort + "1,7,1;", "preach(1,20) = 7", "person(1,1) = 20", "preach(1,0) = 20",
+                "person(1,1) = 0", "person(0,1) = 3");
+        }
+
+        edge.test("the FAITH that he has already: an ACT all the same");
+        edge.answers("t2,0;p0,7,1;", "preach(0,7) = 7", "person(0,1) = 7", "count(6) = 1", "preach(0,8) = 7",
+            "undo() = 1", "undo() = 0", "person(0,1) = 7");
+
         edge.test("he has WAITED as before, and it is no MINUTE");
         edge.answers("t3,40;d0,9,2; minutes(5)", "preach(0,20) = 9", "person(0,3) = 5", "person(0,4) = 15",
             "count(3) = 5", "preach(0,5) = 20", "person(0,4) = 0", "preach(0,6) = 5", "person(0,4) = 1");
@@ -25,6 +35,7 @@ public final class Promise11PreachTest {
         edge.test("an ACT; what is refused is none");
         edge.answers("t3,0;p0,3,2;", "preach(0,4) = 3", "count(6) = 1", "preach(0,21) = BAD", "preach(1,4) = BAD",
             "count(6) = 1", "undo() = 0", "person(0,1) = 3");
+        edge.beside("preach");
         edge.end();
     }
 }

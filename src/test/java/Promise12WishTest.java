@@ -21,6 +21,12 @@ public final class Promise12WishTest {
         edge.each(Edge.NEW, "wish(#,0) = BAD", -1, 0);
         edge.answers(Edge.CROWDED, "wish(5,7) = 0", "person(5,2) = 7");
 
+        edge.test("of each KIND; the STOP that he WANTS already: an ACT all the same");
+        for (char sort : "pcdks".toCharArray()) {
+            edge.answers("t4,0;" + sort + "1,7,2;", "wish(0,2) = 2", "person(0,2) = 2", "count(6) = 1", "wish(0,3) = 2",
+                "wish(0,1) = 3", "count(5) = 1", "undo() = 2", "undo() = 1", "undo() = 0", "person(0,2) = 2");
+        }
+
         edge.test("THERE by a wish, and no more by another; he has WAITED as before");
         edge.answers("t3,40;p1,7,2; minutes(4)", "wish(0,1) = 2", "count(5) = 1", "wish(0,0) = 1", "count(5) = 0",
             "person(0,3) = 4", "count(3) = 4");
@@ -28,6 +34,7 @@ public final class Promise12WishTest {
         edge.test("an ACT; what is refused is none");
         edge.answers("t3,0;p0,3,2;", "wish(0,1) = 2", "count(6) = 1", "wish(0,3) = BAD", "wish(1,0) = BAD",
             "count(6) = 1", "undo() = 0", "person(0,2) = 2");
+        edge.beside("wish");
         edge.end();
     }
 }

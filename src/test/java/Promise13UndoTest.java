@@ -13,6 +13,7 @@ public final class Promise13UndoTest {
 
         undoesEach();
         keepsTwentyFour();
+        edge.beside("undo");
         edge.end();
     }
 

@@ -47,6 +47,7 @@ public final class Promise14PersonTest {
         edge.stays("t2,0;s0,0,0;p0,0,0;", "person(0,4) = 3");
         edge.stays("t2,0;s0,0,0;s0,0,0;s1,0,0;", "person(0,4) = 3", "person(1,4) = 3", "person(2,4) = 13");
         edge.answers("t2,0;s0,0,0;p0,0,0;", "walk(1,1) = 1", "person(0,4) = 13", "walk(0,1) = 1", "person(0,4) = 3");
+        edge.beside("person");
         edge.end();
     }
 }

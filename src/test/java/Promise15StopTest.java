@@ -28,6 +28,7 @@ public final class Promise15StopTest {
         edge.stays(Edge.EMPTY, "stop(0,1) = 0", "stop(1,1) = 0");
         edge.stays("t8,0;p7,0,0;p7,0,0;p7,0,0;p7,0,0;p7,0,0;p7,0,0;", "stop(7,1) = 63", "stop(0,1) = 0");
         edge.stays("t8,0;p7,0,0;p0,0,0;p7,0,0;p0,0,0;p7,0,0;p0,0,0;", "stop(7,1) = 21", "stop(0,1) = 42");
+        edge.beside("stop");
         edge.end();
     }
 }

@@ -19,11 +19,16 @@ public final class Promise16WhereTest {
         }
         edge.stays(Edge.CROWDED, "where(5,60) = 0");
 
+        edge.test("from now on: one has WAITED as long as he has");
+        edge.stays("t3,4;d0,5,0; minutes(1) wish(0,2)", "where(0,0) = 0", "where(0,1) = 1", "where(0,2) = 2");
+        edge.stays("t3,4;d0,5,0; minutes(2) wish(0,2)", "where(0,1) = 0", "where(0,60) = 0");
+
         edge.test("nobody walking, from now on, beyond MINUTE 999 too");
         edge.stays("t3,40;p0,6,2;", "where(0,60) = 0");
         edge.stays("t8,40;p0,1,7; minutes(24)*41 minutes(15) preach(0,20) wish(0,0)", "where(0,60) = 0");
         edge.answers("t3,5;p0,4,2; minutes(24)*41 minutes(15)", "preach(0,5) = 4", "where(0,1) = 1", "where(0,2) = 2",
             "where(0,60) = 2", "count(3) = 999");
+        edge.beside("where");
         edge.end();
     }
 }

@@ -28,12 +28,18 @@ public final class Promise17TramTest {
         edge.stays(Edge.EMPTY, "tram(0) = NONE", "tram(60) = NONE");
         edge.stays("t3,0;d1,2,1;", "tram(0) = 1", "tram(1) = 1", "tram(2) = NONE", "tram(3) = NONE");
 
+        edge.test("from now on: one has WAITED as long as he has");
+        edge.stays("t3,4;d0,5,0; minutes(1) wish(0,2)", "tram(0) = 0", "tram(1) = 1", "tram(2) = 2", "tram(3) = 2",
+            "tram(4) = NONE");
+        edge.stays("t3,4;d0,5,0; minutes(2) wish(0,2)", "tram(0) = NONE", "tram(1) = NONE");
+
         edge.test("most HOPE, of several the least");
         edge.stays("t3,0;p2,5,0;p1,5,0;p0,4,0;", "tram(0) = 1");
         edge.stays("t3,0;p2,6,0;p1,5,0;p0,4,0;", "tram(0) = 2");
         edge.stays("t3,5;p2,5,0;p1,5,0;p0,5,0;", "tram(0) = 0");
         edge.stays("t3,0;p2,6,0;p1,5,0;p1,2,0;", "tram(0) = 1");
         edge.stays("t8,0;k7,0,7;", "tram(0) = 7", "tram(60) = 7");
+        edge.beside("tram");
         edge.end();
     }
 }

@@ -14,11 +14,16 @@ public final class Promise18ThereTest {
         edge.each(Edge.NEW, "there(#) = STATE", 0, 60, -1, 61, MIN, MAX);
         edge.stays("!t9,0;", "there(0) = STATE");
 
+        edge.test("from now on: one has WAITED as long as he has");
+        edge.stays("t3,4;d0,5,0; minutes(1) wish(0,2)", "there(0) = 0", "there(1) = 0", "there(2) = 1");
+        edge.stays("t3,4;d0,5,0; minutes(2) wish(0,2)", "there(2) = 0", "there(60) = 0");
+
         edge.test("bits: nobody, all");
         edge.stays(Edge.EMPTY, "there(0) = 0", "there(60) = 0");
         edge.stays("t2,40;p0,0,1;p0,0,1;p0,0,1;p0,0,1;p0,0,1;p0,0,1;", "there(0) = 0", "there(60) = 0");
         edge.stays("t2,40;p1,0,1;p1,0,1;p1,0,1;p1,0,1;p1,0,1;p1,0,1;", "there(0) = 63", "there(60) = 63");
         edge.stays("t2,0;p0,1,1;p0,0,1;p0,0,1;p0,0,1;p0,0,1;p0,0,1;", "there(0) = 0", "there(1) = 63");
+        edge.beside("there");
         edge.end();
     }
 }

@@ -26,6 +26,7 @@ public final class Promise19WhenTest {
         edge.each(Edge.EMPTY, "when(#) = BAD", -1, 0);
         edge.each(Edge.NEW, "when(#) = BAD", -1, 0);
         edge.stays(Edge.CROWDED, "when(5) = 0");
+        edge.beside("when");
         edge.end();
     }
 }

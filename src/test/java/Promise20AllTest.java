@@ -24,6 +24,7 @@ public final class Promise20AllTest {
         edge.test("STATE: no LINE");
         edge.stays(Edge.NEW, "all() = STATE");
         edge.stays("row(0,0,1) !t9,0;", "all() = STATE");
+        edge.beside("all");
         edge.end();
     }
 }

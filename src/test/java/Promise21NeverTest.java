@@ -21,6 +21,7 @@ public final class Promise21NeverTest {
         edge.test("STATE: no LINE");
         edge.stays(Edge.NEW, "never() = STATE");
         edge.stays("row(0,0,1) !t9,0;", "never() = STATE");
+        edge.beside("never");
         edge.end();
     }
 }

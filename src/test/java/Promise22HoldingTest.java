@@ -25,6 +25,7 @@ public final class Promise22HoldingTest {
         edge.test("STATE: no LINE");
         edge.stays(Edge.NEW, "holding() = STATE");
         edge.stays("row(0,0,1) !t9,0;", "holding() = STATE");
+        edge.beside("holding");
         edge.end();
     }
 }

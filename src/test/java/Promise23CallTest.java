@@ -50,6 +50,7 @@ public final class Promise23CallTest {
 
         edge.test("BAD: neither 0 nor 1");
         edge.each(Edge.RICH, "call(0,#) = BAD", -1, 2, 3, MIN, MAX);
+        edge.beside("call");
         edge.end();
     }
 

@@ -40,6 +40,10 @@ public final class Promise24GoTest {
         goes("t2,0;d0,5,1;p1,6,1; minutes(2) preach(1,4)", 0, "NONE", "NONE");
         goes("t2,0;d0,5,1;p1,6,1; minutes(1) preach(1,3)", 0, "0", "1");
 
+        edge.test("others have WAITED as long as they have");
+        goes("t3,0;d0,9,0;p1,1,1; minutes(9) wish(1,2)", 1, "1", "1");
+        goes("t3,0;d0,9,0;p1,1,1; minutes(8) wish(1,2)", 1, "0", "2");
+
         edge.test("BAD: no such one");
         for (int what = 0; what <= 1; what++) {
             edge.each(Edge.RICH, "go(#," + what + ") = BAD", -1, 5, 6, MIN, MAX);
@@ -50,6 +54,7 @@ public final class Promise24GoTest {
 
         edge.test("BAD: neither 0 nor 1");
         edge.each(Edge.RICH, "go(0,#) = BAD", -1, 2, 3, MIN, MAX);
+        edge.beside("go");
         edge.end();
     }
 

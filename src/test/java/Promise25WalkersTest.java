@@ -62,6 +62,7 @@ public final class Promise25WalkersTest {
         walks("t4,8;d0,5,3;p1,3,2; minutes(3)", 3, "1", "1");
         walks("t4,9;d0,5,3;p1,3,2; minutes(3)", 3, "2", "3");
         walks("t4,8;d0,5,3;p1,3,2; minutes(3)", 2, "NONE", "NONE");
+        edge.beside("walkers");
         edge.end();
     }
 

@@ -14,6 +14,7 @@ public final class Promise26FitsTest {
         tellsSorts();
         takesItems();
         refuses();
+        edge.beside("fits");
         edge.end();
     }
 
@@ -29,6 +30,10 @@ public final class Promise26FitsTest {
         edge.test("FAITH of one now: the others have theirs");
         edge.stays("t2,0;p0,9,0;p1,9,1; row(0,0,2) set(0,1,1)", "fits(0,0,0,1,0) = " + (ALL_FAITHS - 511),
             "fits(0,0,1,1,0) = 511", "fits(1,0,0,1,0) = 1023", "fits(1,0,1,1,0) = " + (ALL_FAITHS - 1023));
+
+        edge.test("FAITH of one now: all have WAITED as long as they have");
+        edge.stays("t2,5;d0,9,0; minutes(3) row(0,0,1)", "fits(0,0,0,1,0) = " + (ALL_FAITHS - 255));
+        edge.stays("t2,5;d0,9,0;p0,0,0; minutes(6) row(0,0,1)", "fits(1,0,0,1,0) = " + (ALL_FAITHS - 3));
     }
 
     private static void tellsSorts() {
@@ -43,6 +48,9 @@ public final class Promise26FitsTest {
         edge.stays("t2,1;k0,2,0; row(0,0,3) set(0,2,-1)", "fits(0,0,0,3,1) = 8");
         edge.stays("t2,9;s0,9,0; minutes(1) row(0,0,1)", "fits(0,0,0,1,1) = 38");
         edge.stays("t2,9;s0,9,0;p0,0,0; minutes(1) row(0,0,1)", "fits(0,0,0,1,1) = 6");
+
+        edge.test("others have WAITED as long as they have");
+        edge.stays("t2,5;d0,9,0;p0,0,0; minutes(6) row(0,0,1)", "fits(1,0,0,1,1) = 48");
     }
 
     private static void takesItems() {

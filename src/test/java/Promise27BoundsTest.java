@@ -19,6 +19,9 @@ public final class Promise27BoundsTest {
         edge.stays("t2,40;p1,1,1; row(0,1,2) set(0,0,1) set(0,1,-1)", "bounds(0,0,1) = 3",
             "bounds(0,1,1) = " + (ALL - 3));
 
+        edge.test("all have WAITED as long as they have");
+        edge.stays("t2,40;d0,9,0; minutes(3) row(0,0,2)", "bounds(0,0,1) = 127", "bounds(0,0,2) = 63");
+
         edge.test("and more than 0: nowhere by BOUND 0, too");
         edge.stays("t2,40;p1,0,1; row(0,1,2) set(0,0,1) set(0,1,-1)", "bounds(0,0,1) = 0", "bounds(0,1,1) = " + ALL);
         edge.stays(Edge.EMPTY + " row(0,1,1) set(0,0,-1)", "bounds(0,0,1) = " + ALL);
@@ -54,6 +57,7 @@ public final class Promise27BoundsTest {
             "bounds(0,0,0) = STATE", "bounds(0,0,17) = STATE");
         edge.stays("row(0,0,2) set(0,2,0) !t9,0;", "bounds(0,0,1) = STATE", "bounds(0,2,1) = STATE",
             "bounds(1,0,1) = STATE");
+        edge.beside("bounds");
         edge.end();
     }
 }

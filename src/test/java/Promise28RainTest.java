@@ -35,6 +35,15 @@ public final class Promise28RainTest {
         rains(SIX, 0, 5, 1, 64);
         rains(SIX, 0, 4, 729, 15625);
 
+        edge.test("six of them: surely, never");
+        rains(SIX, 0, 0, 1, 1);
+        rains(SIX, 1, 0, 0, 1);
+        rains(SIX, 0, 10, 0, 1);
+
+        edge.test("now: all have WAITED as long as they have");
+        rains("t2,5;d0,9,0; minutes(4)", 0, 3, 7, 10);
+        rains("t2,5;d0,9,0; minutes(5)", 0, 3, 0, 1);
+
         edge.test("BOUND or more of those who HOPE; of several the least");
         rains("t2,3;k0,0,0;k0,0,0;", 0, 5, 3, 4);
         rains("t2,4;k0,0,0;k0,0,0;", 0, 5, 1, 4);
@@ -56,6 +65,7 @@ public final class Promise28RainTest {
 
         edge.test("BAD: neither 0 nor 1");
         edge.each(Edge.RICH, "rain(0,1,#) = BAD", -1, 2, 3, MIN, MAX);
+        edge.beside("rain");
         edge.end();
     }
 

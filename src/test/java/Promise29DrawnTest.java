@@ -1,3 +1,5 @@
+import java.math.BigInteger;
+
 /**
  * Promise 29, drawn: DAYS of n MINUTES (0 to 60) by a SEED (1 to 999999): who is THERE (what = 0), how many MINUTES
  * (1). BAD; STATE: no LINE (ahead of BAD).
@@ -40,6 +42,19 @@ public final class Promise29DrawnTest {
         draws("t2,7;p1,0,0;p1,0,0;p0,0,1;p1,0,0;p1,0,0;", 1, 1, 4, 1);
         draws("t2,7;p1,0,0;p0,0,1;p1,0,0;p1,0,0;p1,0,0;p1,0,0;", 1, 1, 2, 1);
 
+        edge.test("X to the sixtieth draw");
+        for (int seed : new int[] {1, 2, 16807, 524287, 999999}) {
+            drawsOfOne(seed);
+        }
+
+        edge.test("all have WAITED as long as they have, and FAITH that becomes another does not change it");
+        draws("t2,6;d0,0,0; minutes(1) wish(0,1)", 1, 1, 1, 1);
+        draws("t2,7;d0,0,0; minutes(1) wish(0,1)", 1, 1, 0, 0);
+
+        edge.test("THE TRAM ahead of the MINUTE, not behind it");
+        draws("t2,7;d0,0,0;", 1, 1, 1, 1);
+        draws("t2,10;s0,0,1;k1,0,1;", 1, 1, 3, 1);
+
         edge.test("nobody: of nobody");
         draws(Edge.EMPTY, 0, 1, 0, 0);
         draws(Edge.EMPTY, 60, 999999, 0, 0);
@@ -52,7 +67,23 @@ public final class Promise29DrawnTest {
         edge.each(Edge.NEW, "drawn(1,#,0) = STATE", 1, 0, 1000000, MIN, MAX);
         edge.each(Edge.NEW, "drawn(1,1,#) = STATE", 1, -1, 2);
         edge.stays("!t9,0;", "drawn(1,1,0) = STATE");
+        edge.beside("drawn");
         edge.end();
+    }
+
+    /** One alone, who is THERE: THE TRAM is with him in each MINUTE whose draw makes his FAITH BOUND. */
+    private static void drawsOfOne(int seed) {
+        for (int bound : new int[] {1, 11, 20}) {
+            Player player = new Player("t2," + bound + ";p0,0,0;");
+            BigInteger x = BigInteger.valueOf(seed);
+            int minutes = 0;
+            for (int n = 1; n <= 60; n++) {
+                x = x.multiply(BigInteger.valueOf(16807)).mod(BigInteger.valueOf(2147483647));
+                minutes += x.mod(BigInteger.valueOf(21)).intValue() >= bound ? 1 : 0;
+                String call = "drawn(" + n + "," + seed + ",1)";
+                edge.due("BOUND " + bound, call, player.call(call), minutes);
+            }
+        }
     }
 
     private static void draws(String scene, int n, int seed, int there, int minutes) {

@@ -29,6 +29,7 @@ public final class Promise30ImageTest {
         edge.test("the LINE stays, and its ACTS can be undone");
         edge.answers("t4,5;p0,6,3;d2,5,0; minutes(2)", "image(0) = 1", "count(6) = 2", "count(3) = 2", "undo() = 1",
             "count(3) = 1", "restore(0) = 1", "count(3) = 2");
+        edge.beside("image");
         edge.end();
     }
 }

@@ -37,6 +37,7 @@ public final class Promise31RestoreTest {
         edge.answers(Edge.RICH, "restore(1) = 1", "count(0) = 4", "count(7) = 12", "fault() = 2", "trace(0) = 12",
             "status() = 2", "count(3) = 1", "restore(0) = 1", "count(3) = 2", "line() = 1", "restore(0) = 1",
             "count(1) = 5");
+        edge.beside("restore");
         edge.end();
     }
 }

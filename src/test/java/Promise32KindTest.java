@@ -13,6 +13,7 @@ public final class Promise32KindTest {
         edge.each(Edge.CROWDED, "kind(#) = BAD", -1, 6);
         edge.each(Edge.EMPTY, "kind(#) = BAD", -1, 0);
         edge.each(Edge.NEW, "kind(#) = BAD", -1, 0);
+        edge.beside("kind");
         edge.end();
     }
 }

@@ -27,6 +27,7 @@ public final class Promise33AsTest {
             edge.each(Edge.EMPTY, "as(#," + kind + ") = BAD", -1, 0);
             edge.each(Edge.NEW, "as(#," + kind + ") = BAD", -1, 0);
         }
+        edge.beside("as");
         edge.end();
     }
 }

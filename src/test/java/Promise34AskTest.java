@@ -15,6 +15,10 @@ public final class Promise34AskTest {
             "minutes(24) = 3", "minutes(24) = 3", "minutes(24) = 3", "minutes(24) = 3", "minutes(24) = 3",
             "ask(0,0) = -198", "ask(0,1) = 198", "ask(1,0) = -880", "ask(1,1) = -900");
 
+        edge.test("of CHILDREN and SAINTS by FAITH, though they do not HOPE by it, and not by how long they have WAITED");
+        edge.answers("t2,0;k0,7,0;s1,20,1;k0,0,0; minutes(24)*5", "person(0,3) = 99", "ask(0,0) = -93", "ask(0,1) = 93",
+            "ask(1,0) = -160", "ask(1,1) = 161", "ask(2,0) = -100", "ask(2,1) = 102");
+
         edge.test("BAD: neither 0 nor 1; THE TRACE stays");
         edge.each(Edge.RICH, "ask(0,#) = BAD", -1, 2, 3, MIN, MAX);
 
@@ -33,6 +37,7 @@ public final class Promise34AskTest {
         edge.test("nothing but THE TRACE changes");
         edge.stays(ALL_KINDS + " ask(1,0)", "ask(1,0) = -11");
         edge.stays(ALL_KINDS + " row(0,0,-1) ask(4,1)", "ask(4,1) = 200");
+        edge.beside("ask");
         edge.end();
     }
 }

@@ -26,6 +26,7 @@ public final class Promise35TraceTest {
         edge.test("many ASKS leave no more than the latest does");
         edge.answers(ALL_KINDS + "ask(1,0)*20", "trace(5) = 20", "trace(6) = NONE", "trace(15) = NONE",
             "trace(16) = NONE", "ask(3,0) = -97", "trace(1) = 10", "trace(2) = NONE");
+        edge.beside("trace");
         edge.end();
     }
 

@@ -45,6 +45,7 @@ public final class Promise36CountTest {
         edge.stays("feed(65)*100", "count(7) = 100");
         edge.stays("feed(65)*101", "count(7) = 100");
         edge.stays("feed(65)*100 line()", "count(7) = 0");
+        edge.beside("count");
         edge.end();
     }
 }

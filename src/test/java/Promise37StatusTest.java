@@ -16,6 +16,7 @@ public final class Promise37StatusTest {
 
         tellsEach();
         leavesIt();
+        edge.beside("status");
         edge.end();
     }
 
