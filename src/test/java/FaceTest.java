@@ -16,6 +16,7 @@ import java.util.regex.Pattern;
 public final class FaceTest {
     private static final Check check = new Check();
     private static final Path SOURCE = Path.of("src/main/java/TramFaith.java");
+    private static final Path DOCUMENT = Path.of("../shared/DOC.md");
     private static final String FACE = "all/0 as/2 ask/2 bounds/3 call/2 copy/5 count/1 drawn/3 drop/1 fault/0 feed/1 "
         + "fits/5 go/2 holding/0 image/1 kind/1 line/0 minutes/1 never/0 person/2 preach/2 rain/3 restore/1 row/3 "
         + "set/3 status/0 stop/2 there/1 trace/1 tram/1 undo/0 walk/2 walkers/2 when/1 where/2 wish/2";
@@ -24,6 +25,7 @@ public final class FaceTest {
         hasItsConstants();
         hasItsFace();
         keepsInside();
+        standsAsTheDocumentSays(Files.readString(SOURCE), Files.readString(DOCUMENT));
         String code = bare(Files.readString(SOURCE));
         usesOnlyWhatIsListed(code);
         keepsItsMeasures(Files.readAllLines(SOURCE), code);
@@ -64,6 +66,33 @@ public final class FaceTest {
             && Modifier.isPublic(made[0].getModifiers()));
         yes("the class is public and final", Modifier.isPublic(TramFaith.class.getModifiers())
             && Modifier.isFinal(TramFaith.class.getModifiers()));
+    }
+
+    /** The constants and the calls are written as in the document, in its order, under what the interface says. */
+    private static void standsAsTheDocumentSays(String source, String document) {
+        Matcher face = Pattern.compile("(?s)```java\n(.*?)```").matcher(document);
+        yes("the document shows a face", face.find());
+        List<String> told = found("(?m)^    (public int \\w+\\([^)]*\\));$", face.group(1));
+        List<String> written = found("(?m)^    (public int \\w+\\([^)]*\\)) \\{$", source);
+        check.due("calls of the document", told.size(), 36);
+        yes("the calls are written as in the document: " + written, written.equals(told));
+        for (String constants : found("(?m)^    (public static .*;)$", face.group(1))) {
+            yes("the constants are written as in the document: " + constants, source.contains("    " + constants + "\n"));
+        }
+        Matcher part = Pattern.compile("Ahead of the calls (.*) the interface says: (---- .*)\\.").matcher(document);
+        int parts = 0;
+        while (part.find()) {
+            parts++;
+            List<String> under = found("(?s)    // " + part.group(2) + "\n(.*?)    // ----", source);
+            yes("the class says " + part.group(2), under.size() == 1);
+            String names = String.join(", ", found("(?m)^    public int (\\w+)\\(", String.join("", under)));
+            yes("under it are " + names, names.equals(part.group(1).replace("`", "")));
+        }
+        check.due("what the interface says", parts, 4);
+    }
+
+    private static List<String> found(String pattern, String text) {
+        return Pattern.compile(pattern).matcher(text).results().map(result -> result.group(1)).toList();
     }
 
     private static void keepsInside() {

@@ -40,6 +40,13 @@ public final class Promise24GoTest {
         goes("t2,0;d0,5,1;p1,6,1; minutes(2) preach(1,4)", 0, "NONE", "NONE");
         goes("t2,0;d0,5,1;p1,6,1; minutes(1) preach(1,3)", 0, "0", "1");
 
+        edge.test("were he there now: others HOPE by that, too");
+        // one of the crowd HOPES more by him, a saint less
+        goes("t3,6;c1,5,1;p0,0,2;", 1, "1", "1");
+        goes("t3,7;c1,5,1;p0,0,2;", 1, "NONE", "NONE");
+        goes("t3,3;s1,0,1;p0,0,2;", 1, "1", "1");
+        goes("t3,4;s1,0,1;p0,0,2;", 1, "NONE", "NONE");
+
         edge.test("others have WAITED as long as they have");
         goes("t3,0;d0,9,0;p1,1,1; minutes(9) wish(1,2)", 1, "1", "1");
         goes("t3,0;d0,9,0;p1,1,1; minutes(8) wish(1,2)", 1, "0", "2");
