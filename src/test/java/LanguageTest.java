@@ -15,6 +15,7 @@ import com.sun.source.tree.MethodInvocationTree;
 import com.sun.source.tree.MethodTree;
 import com.sun.source.tree.NewArrayTree;
 import com.sun.source.tree.NewClassTree;
+import com.sun.source.tree.ParenthesizedTree;
 import com.sun.source.tree.SwitchExpressionTree;
 import com.sun.source.tree.SwitchTree;
 import com.sun.source.tree.SynchronizedTree;
@@ -44,6 +45,8 @@ import javax.lang.model.element.ExecutableElement;
 import javax.lang.model.element.Modifier;
 import javax.lang.model.element.TypeElement;
 import javax.lang.model.element.VariableElement;
+import javax.lang.model.type.ArrayType;
+import javax.lang.model.type.DeclaredType;
 import javax.lang.model.type.TypeKind;
 import javax.lang.model.type.TypeMirror;
 import javax.tools.JavaCompiler;
@@ -117,7 +120,7 @@ public final class LanguageTest extends TreePathScanner<Void, Void> {
 
     @Override
     public Void visitCompilationUnit(CompilationUnitTree tree, Void none) {
-        rule(3, tree, "no package line", tree.getPackageName() == null);
+        rule(1, tree, "no package line", tree.getPackageName() == null);
         rule(1, tree, "one class in the file, the public one", tree.getTypeDecls().size() == 1);
         super.visitCompilationUnit(tree, none);
         rule(11, tree, "classes: " + classes.size(), classes.size() <= MOST_CLASSES);
@@ -173,7 +176,7 @@ public final class LanguageTest extends TreePathScanner<Void, Void> {
     /** Numbers, their arrays to two dimensions, own classes and their arrays, String. */
     private static boolean isListed(TypeMirror type, int dimensions) {
         if (type.getKind() == TypeKind.ARRAY) {
-            return isListed(((javax.lang.model.type.ArrayType) type).getComponentType(), dimensions + 1);
+            return isListed(((ArrayType) type).getComponentType(), dimensions + 1);
         }
         if (NUMBERS.contains(type.getKind())) {
             return dimensions <= 2;
@@ -332,7 +335,7 @@ public final class LanguageTest extends TreePathScanner<Void, Void> {
     }
 
     private static boolean compares(ExpressionTree condition) {
-        if (condition instanceof com.sun.source.tree.ParenthesizedTree inside) {
+        if (condition instanceof ParenthesizedTree inside) {
             return compares(inside.getExpression());
         }
         if (condition instanceof BinaryTree both && both.getKind() == Tree.Kind.CONDITIONAL_AND) {
@@ -355,12 +358,13 @@ public final class LanguageTest extends TreePathScanner<Void, Void> {
         }
         check.due("rule 11: calls go at most eight deep: " + deepest, deepest <= MOST_DEEP ? 1 : 0, 1);
         Set<String> open = new TreeSet<>();
-        calls.keySet().stream().filter(m -> m.getModifiers().contains(Modifier.PUBLIC))
+        calls.keySet().stream().filter(m -> m.getKind() == ElementKind.METHOD)
+            .filter(m -> m.getModifiers().contains(Modifier.PUBLIC))
             .forEach(m -> open.add(m.getSimpleName().toString()));
         for (ExecutableElement method : calls.keySet()) {
             boolean isHidden = method.getModifiers().contains(Modifier.PRIVATE);
-            check.due("rule 1: no private method bears the name of a public one: " + method,
-                isHidden && method.getKind() == ElementKind.METHOD && open.contains(method.getSimpleName().toString()) ? 0 : 1, 1);
+            boolean isBorne = isHidden && open.contains(method.getSimpleName().toString());
+            check.due("rule 1: no private method bears the name of a public one: " + method, isBorne ? 0 : 1, 1);
         }
     }
 
@@ -389,7 +393,7 @@ public final class LanguageTest extends TreePathScanner<Void, Void> {
             return false;
         }
         TypeElement at = (TypeElement) below.getEnclosingElement();
-        while (at.getSuperclass() instanceof javax.lang.model.type.DeclaredType up) {
+        while (at.getSuperclass() instanceof DeclaredType up) {
             at = (TypeElement) up.asElement();
             if (at.equals(above.getEnclosingElement())) {
                 return true;
