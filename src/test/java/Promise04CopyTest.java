@@ -25,6 +25,11 @@ public final class Promise04CopyTest {
         edge.answers(RIDE, "copy(0,0,0,1,4) = 4", "bounds(0,1,4) = " + TOLD, "copy(0,1,0,0,4) = 4",
             "bounds(0,0,4) = " + TOLD, "copy(0,0,0,0,5) = 5", "bounds(0,0,4) = " + TOLD);
 
+        edge.test("whatever the LINE is: by the highest BOUND, at the last MINUTE");
+        edge.answers("t2,40;p1,20,1;p1,20,1; minutes(24)*41 minutes(15) row(0,0,2) set(0,1,1) row(1,0,2)",
+            "bounds(1,0,1) = 0", "copy(0,1,1,0,1) = 1", "bounds(1,0,1) = 1073741823", "copy(0,0,1,0,2) = 2",
+            "bounds(1,0,1) = 0");
+
         edge.test("n is 0: nothing comes, at each end too");
         edge.stays(RIDE, "copy(0,0,1,0,0) = 0", "copy(0,5,1,6,0) = 0", "copy(0,5,0,5,0) = 0", "copy(1,6,0,0,0) = 0");
         edge.stays(Edge.RICH + " row(5,0,0)", "copy(4,0,5,0,0) = 0", "copy(4,0,4,0,0) = 0", "copy(0,3,4,0,0) = 0");

@@ -15,6 +15,11 @@ public final class Promise20AllTest {
         edge.stays("t3,0;p0,5,2;k1,0,0; minutes(1)", "all() = 1");
         edge.stays("t3,0;p0,5,2;k1,0,0; minutes(2)", "all() = 0");
 
+        edge.test("by the highest BOUND");
+        edge.stays("t2,40;p1,0,1;", "all() = 0");
+        edge.stays("t2,40;p0,20,1;p0,20,1;", "all() = 1");
+        edge.stays("t2,40;p0,20,1;p0,19,1;", "all() = NONE");
+
         edge.test("to 60; NONE");
         edge.stays(Edge.BEHIND_60, "all() = 60");
         edge.stays(Edge.BEHIND_61, "all() = NONE");

@@ -40,6 +40,10 @@ public final class Promise24GoTest {
         goes("t2,0;d0,5,1;p1,6,1; minutes(2) preach(1,4)", 0, "NONE", "NONE");
         goes("t2,0;d0,5,1;p1,6,1; minutes(1) preach(1,3)", 0, "0", "1");
 
+        edge.test("by the highest BOUND");
+        goes("t3,40;p2,0,1;p0,20,0;p0,20,0;", 0, "0", "1");
+        goes("t3,40;p2,0,1;p0,20,0;p0,19,0;", 0, "NONE", "NONE");
+
         edge.test("were he there now: others HOPE by that, too");
         // one of the crowd HOPES more by him, a saint less
         goes("t3,6;c1,5,1;p0,0,2;", 1, "1", "1");

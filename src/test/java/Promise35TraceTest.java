@@ -23,6 +23,10 @@ public final class Promise35TraceTest {
         edge.test("the first 16: no number beyond");
         edge.each(ALL_KINDS + "ask(1,0)", "trace(#) = NONE", 6, 7, 14, 15, 16, 17, -1, -16, MIN, MAX);
 
+        edge.test("THE TRACE stays when another LINE is read, one with nobody, too, or an IMAGE is restored");
+        edge.answers(ALL_KINDS + "image(0) ask(3,0) t2,0;", "count(2) = 0", "trace(0) = 13", "trace(1) = 10",
+            "trace(2) = NONE", "restore(0) = 1", "trace(0) = 13", "ask(0,1) = 2", "trace(0) = 21");
+
         edge.test("many ASKS leave no more than the latest does");
         edge.answers(ALL_KINDS + "ask(1,0)*20", "trace(5) = 20", "trace(6) = NONE", "trace(15) = NONE",
             "trace(16) = NONE", "ask(3,0) = -97", "trace(1) = 10", "trace(2) = NONE");
